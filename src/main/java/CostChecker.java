@@ -683,7 +683,9 @@ public final class CostChecker {
                 for (int to = 0; to < SIDES; to++) {
                     if (boundOf(from, a) != NO_BOUND && boundOf(b, to) != NO_BOUND) {
                         long sum = boundOf(from, a) + c + boundOf(b, to);
-                        bounds[SIDES * from + to] = Math.min(boundOf(from, to), sum);
+                        if (sum < boundOf(from, to)) {
+                            bounds[SIDES * from + to] = sum;
+                        }
                     }
                 }
             }
@@ -784,11 +786,11 @@ public final class CostChecker {
                 for (int b = a + 1; b < SIDES; b++) {
                     long k = factors[SIDES * a + b];
                     // The least of a - b is minus the bound of b - a.
-                    long bound = k > 0 ? known.boundOf(b, a) : known.boundOf(a, b);
-                    if (k != 0 && bound == NO_BOUND) {
+                    long needed = k > 0 ? known.boundOf(b, a) : known.boundOf(a, b);
+                    if (k != 0 && needed == NO_BOUND) {
                         return false;
                     }
-                    sum -= k == 0 ? 0 : Math.abs(k) * bound;
+                    sum += k > 0 ? -k * needed : k * needed;
                 }
             }
             return sum >= 0;
@@ -1001,16 +1003,22 @@ public final class CostChecker {
                 if (kind == RETURN) {
                     return reasonAtEnd(path, null);
                 }
-                boolean isParting = kind == IFLESS || kind == IFNOT;
-                int reason = isParting ? reasonBehind(level, kind == IFNOT) : reasonOf(path, kind, n);
-                if (reason != ALL_WELL) {
-                    return reason;
-                }
-                if (isParting) {
-                    if (!path.learnLess(kind == IFLESS)) {
+                int reason = ALL_WELL;
+                if (kind == IFLESS || kind == IFNOT) {
+                    reason = reasonBehind(level, kind == IFNOT);
+                    path.place = n;
+                    if (reason == ALL_WELL && !path.learnLess(kind == IFLESS)) {
                         return ALL_WELL;
                     }
-                    path.place = n;
+                } else if (kind == NEW) {
+                    reason = reasonOfNew(path);
+                } else if (kind == CALL) {
+                    reason = reasonOfCall(path, methods[n]);
+                } else {
+                    path.performPlain(kind, n);
+                }
+                if (reason != ALL_WELL) {
+                    return reason;
                 }
             }
             return UNCUT;
@@ -1025,17 +1033,6 @@ public final class CostChecker {
             Path behind = paths[level + 1];
             behind.copyFrom(paths[level]);
             return behind.learnLess(isLess) ? reasonFrom(level + 1) : ALL_WELL;
-        }
-
-        private int reasonOf(Path path, int kind, int n) {
-            if (kind == NEW) {
-                return reasonOfNew(path);
-            }
-            if (kind == CALL) {
-                return reasonOfCall(path, methods[n]);
-            }
-            path.performPlain(kind, n);
-            return ALL_WELL;
         }
 
         private int reasonOfNew(Path path) {

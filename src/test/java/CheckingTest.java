@@ -131,6 +131,24 @@ public final class CheckingTest {
         due("chain: its sum is 1", y.check(0), 9);
         claims(y, 0, 0, 4, 0);
         due("chain: another is less", y.check(0), 0);
+        // Whatever order the claims of a chain come in: 0 - 1 <= 2, 1 - 2 <= 3, 2 - 4 <= -5.
+        int[][] orders = {{0, 1, 2}, {0, 2, 1}, {1, 0, 2}, {1, 2, 0}, {2, 0, 1}, {2, 1, 0}};
+        int[][] chain = {{0, 1, 2}, {1, 2, 3}, {2, 4, -5}};
+        for (int[] order : orders) {
+            CostChecker z = Dues.with(Dues.PUSH, 0, Dues.RETURN, 0);
+            z.term(0, 0, 0, 1, Dues.side(4, 0));
+            for (int i : order) {
+                claims(z, 0, chain[i]);
+            }
+            needs("chain in the order " + order[0] + order[1] + order[2], z, 2);
+            claims(z, 0, 3, 0, -900);
+            needs("a side of which nothing is bounded from above", z, 2);
+            z.term(0, 0, 0, 1, Dues.side(0, 3));
+            z.base(0, 0, 0, 2);
+            due("a side above", z.check(0), 0);
+            z.term(0, 0, 0, 1, Dues.side(3, 0));
+            due("no bound from the other direction", z.check(0), 1);
+        }
     }
 
     /**
@@ -226,6 +244,14 @@ public final class CheckingTest {
             Dues.PUSH, 0, Dues.RETURN, 0, Dues.DROP, 0);
         nothing.base(0, 0, 0, 7);
         due("of NOTHING both are followed", nothing.check(0), 2);
+        CostChecker deep = Dues.with(Dues.PUSH, 9, Dues.LOAD, 0, Dues.LOAD, 1, Dues.IFLESS, 4, Dues.RETURN, 0);
+        needs("a parting takes just two values", deep, 5);
+        CostChecker both = Dues.with(Dues.PUSH, 9, Dues.PUSH, 9, Dues.LOAD, 0, Dues.LOAD, 1, Dues.IFNOT, 5,
+            Dues.ADD, 0, Dues.NEW, 0, Dues.PUSH, 0, Dues.RETURN, 0);
+        both.base(0, 0, 1, 20);
+        needs("and leaves those below as they are", both, 9);
+        both.base(0, 0, 1, 19);
+        due("and leaves those below as they are, on both paths", both.check(0), 9);
         partingsAddUp();
     }
 
@@ -322,6 +348,23 @@ public final class CheckingTest {
         there.base(0, 8, 0, 2);
         due("uncut: not before a cut, which has its own path", there.check(0), 802);
         due("uncut: GOTO 1", loops().check(0), 3);
+        partingsThatStandOpen();
+    }
+
+    /** Twice through five partings on READ, each of which may leave, and one that counts. */
+    private static void partingsThatStandOpen() {
+        CostChecker x = new CostChecker();
+        Dues.write(x, 0, Dues.GOTO, 1, Dues.UP, 1);
+        for (int i = 0; i < 5; i++) {
+            Dues.write(x, 0, Dues.READ, 0, Dues.READ, 0, Dues.IFLESS, 20);
+        }
+        Dues.write(x, 0, Dues.LOAD, 0, Dues.PUSH, 2, Dues.IFLESS, 1, Dues.PUSH, 0, Dues.RETURN, 0);
+        claims(x, 0, 0, 4, 0, 4, 0, 0);
+        x.base(0, 0, 0, 50);
+        due("uncut: 41 instructions with 12 partings", x.check(0), 3);
+        x.cut(0, 20);
+        x.base(0, 20, 0, 2);
+        needs("39 instructions with 12 partings, and a cut", x, 41);
     }
 
     private static CostChecker loops() {
@@ -419,6 +462,9 @@ public final class CheckingTest {
         number.base(0, 0, 0, 4);
         number.base(0, 0, 1, 2);
         due("width: 0", number.check(0), 0);
+        CostChecker two = Dues.with(Dues.PUSH, 5, Dues.PUSH, 0, Dues.NEW, 0, Dues.NEW, 0, Dues.PUSH, 0, Dues.RETURN, 0);
+        two.base(0, 0, 1, 9);
+        needs("width: NEW takes one value", two, 6);
         CostChecker below = Dues.with(Dues.PUSH, -1, Dues.NEW, 0, Dues.PUSH, 0, Dues.RETURN, 0);
         below.base(0, 0, 0, 4);
         due("width: -1", below.check(0), 5);
@@ -636,6 +682,12 @@ public final class CheckingTest {
         due("cost: least is 0", y.check(0), 9);
         claims(y, 0, 1, 0, -1);
         due("cost: least is 2 * 1", y.check(0), 0);
+        CostChecker z = Dues.with(Dues.PUSH, 0, Dues.RETURN, 0);
+        z.term(0, 0, 0, 1, Dues.side(0, 1));
+        claims(z, 0, 1, 0, -1);
+        due("cost: least is 1", z.check(0), 9);
+        claims(z, 0, 1, 0, -2);
+        due("cost: least is 2", z.check(0), 0);
     }
 
     private static void wordsOfCost() {

@@ -128,11 +128,31 @@ public final class MachineTest {
         }
         returns("six values", Dues.with(Dues.PUSH, 1, Dues.PUSH, 2, Dues.PUSH, 3, Dues.PUSH, 4, Dues.PUSH, 5,
             Dues.PUSH, 6, Dues.RETURN, 0), 7, 6);
+        fullStack();
         int[] strange = {-1, 4, 1000, -1000};
         for (int n : strange) {
             ends("LOAD " + n, Dues.with(Dues.LOAD, n, Dues.RETURN, 0), 3, 1);
             ends("STORE " + n, Dues.with(Dues.PUSH, 0, Dues.STORE, n, Dues.PUSH, 0, Dues.RETURN, 0), 3, 2);
         }
+    }
+
+    /** With six values on the stack, each kind that does not put a seventh one there is fine. */
+    private static void fullStack() {
+        int[] kinds = {Dues.STORE, Dues.ADD, Dues.SUB, Dues.UP, Dues.UP_1, Dues.GOTO, Dues.IFLESS, Dues.IFNOT,
+            Dues.NEW, Dues.CALL, Dues.DROP};
+        for (int kind : kinds) {
+            CostChecker x = Dues.with(Dues.PUSH, 4, Dues.RETURN, 0);
+            for (int i = 0; i < 6; i++) {
+                x.put(1, Dues.PUSH, 4);
+            }
+            int n = kind == Dues.GOTO || kind == Dues.IFLESS || kind == Dues.IFNOT ? 7 : 0;
+            Dues.write(x, 1, kind, n, Dues.RETURN, 0);
+            due("kind " + kind + " with six values", x.run(1, 0, 0, 0), 1);
+        }
+        CostChecker last = Dues.with(Dues.PUSH, 1, Dues.PUSH, 2, Dues.PUSH, 3, Dues.PUSH, 4, Dues.PUSH, 5, Dues.PUSH, 6,
+            Dues.RETURN, 0);
+        returns("a run that leaves values", last, 7, 6);
+        returns("the next begins with an empty stack", last, 7, 6);
     }
 
     /** Brings 1000000 on the stack, or -1000000, by inputs. */
@@ -244,6 +264,18 @@ public final class MachineTest {
             Dues.CALL, 0, Dues.RETURN, 0);
         due("second call", x.run(1, 0, 0, 0), 1);
         due("second call: its local 3 is 0 again", x.ran(3), 0);
+        CostChecker leaves = Dues.with(Dues.PUSH, 1, Dues.PUSH, 2, Dues.PUSH, 3, Dues.PUSH, 4, Dues.RETURN, 0);
+        Dues.write(leaves, 1, Dues.PUSH, 0, Dues.PUSH, 0, Dues.PUSH, 0, Dues.CALL, 0, Dues.PUSH, 0, Dues.PUSH, 0,
+            Dues.CALL, 0, Dues.RETURN, 0);
+        due("second call: its stack is empty again", leaves.run(1, 0, 0, 0), 1);
+        CostChecker traps = Dues.with(Dues.UP, 1000, Dues.GOTO, 0);
+        Dues.write(traps, 1, Dues.LOAD, 0, Dues.LOAD, 1, Dues.LOAD, 1, Dues.CALL, 0, Dues.RETURN, 0);
+        Dues.write(traps, 2, Dues.PUSH, 6, Dues.RETURN, 0);
+        due("a run that is trapped in a call", traps.run(1, 999000, 0, 0), 2);
+        due("a run that is trapped in a call: methods at once", traps.ran(2), 2);
+        due("a run behind that", traps.run(2, 0, 0, 0), 1);
+        due("a run behind that: value", traps.ran(3), 6);
+        due("a run behind that: methods at once", traps.ran(2), 1);
     }
 
     private static void tooLong() {
