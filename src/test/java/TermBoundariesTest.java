@@ -17,6 +17,8 @@ public final class TermBoundariesTest {
         step3000();
         step3000InACall();
         ringsOfClaims();
+        noChain();
+        leastOfEachDifference();
         cutBehindTheInstructions();
         tooFewValuesOnAPath();
         tooManyValuesOnAPath();
@@ -243,6 +245,46 @@ public final class TermBoundariesTest {
                     }
                     due("a ring of " + sides + " with the sum " + sum, x.check(0), sum < 0 ? 0 : 2);
                 }
+            }
+        }
+    }
+
+    // "there is no bound when there is no chain"; "is less than 0, or has no least"
+
+    private static void noChain() {
+        int[] factors = {1, 2, 8, 16, 32, 64, 100};
+        for (int k : factors) {
+            for (int a = 0; a < 5; a++) {
+                for (int b = 0; b < 5; b++) {
+                    if (a == b) {
+                        continue;
+                    }
+                    CostChecker x = Dues.with(Dues.PUSH, 0, Dues.RETURN, 0);
+                    base(x, 0, 0, 10000, 0);
+                    x.claim(0, 0, 0, 1, -5);
+                    x.term(0, 0, 0, k, Dues.side(a, b));
+                    boolean hasLeast = a == 1 && b == 0;
+                    due(k + " times " + a + " - " + b, x.check(0), hasLeast ? 0 : 1);
+                }
+            }
+        }
+    }
+
+    // "what is left of each, times the least of its difference if it is above 0 [..] must not be less than 0"
+
+    private static void leastOfEachDifference() {
+        for (int a = 0; a < 5; a++) {
+            for (int b = 0; b < 5; b++) {
+                if (a == b) {
+                    continue;
+                }
+                // Both paths cost 5 steps, and all that pays for them is a - b.
+                CostChecker x = Dues.with(Dues.READ, 0, Dues.READ, 0, Dues.IFLESS, 3, Dues.PUSH, 0, Dues.RETURN, 0);
+                x.term(0, 0, 0, 1, Dues.side(a, b));
+                x.claim(0, 0, b, a, -4);
+                due("5 steps by " + a + " - " + b + ", which is 4 at least", x.check(0), 9);
+                x.claim(0, 0, b, a, -5);
+                due("5 steps by " + a + " - " + b + ", which is 5 at least", x.check(0), 0);
             }
         }
     }
